@@ -936,8 +936,9 @@ public final class YearWord {
             return sum;
         }
 
+        /** A NODE that is no END has no MEANING at which a DEED could aim. */
         private int worthAt(int x, int d) {
-            if (!isEnd(x) || aim[d] != meaning[x]) {
+            if (aim[d] != meaning[x]) {
                 return 0;
             }
             return kind[x] == OATH ? 2 * worth[d] : worth[d];

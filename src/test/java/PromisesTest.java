@@ -9,6 +9,9 @@ public final class PromisesTest {
      */
     private static final String HILLS = "ncwne0lo1ne2 x010x021x132x143x240x234x366x371x565x785x350 d1205d2119d3027";
 
+    /** Eight WORDS to an END of 3, the seventh NODE a COMMA; two DEEDS fill the seven YEARS that are worked in. */
+    private static final String EIGHT = "nnnnnncne3 x010x120x230x341x450x560x679x782 d5139d2131";
+
     private static int wrong = 0;
     private static int promise = 0;
 
@@ -197,6 +200,9 @@ public final class PromisesTest {
         dueAsked(x, "mean(0)", x.mean(0), 1, 3);
         lay(x, 0, Integer.MAX_VALUE, Integer.MAX_VALUE, Integer.MAX_VALUE);
         dueAsked(x, "mean(0)", x.mean(0), 1, Integer.MAX_VALUE);
+        x.row(0, 40);
+        for (int i = 0; i < 40; i++) x.lay(0, i, Integer.MIN_VALUE);
+        dueAsked(x, "mean(0) of forty", x.mean(0), 1, Integer.MIN_VALUE);
     }
 
     private static void p08() {
@@ -260,6 +266,14 @@ public final class PromisesTest {
         dueFault("nnx0 10", 4);
         dueFault("nnx019", NONE);
         dueFault("nnx01a", 5);
+        dueFault("nnx01:", 5);
+        dueFault("nnx01/", 5);
+        dueFault("nnx0:", 4);
+        dueFault("nnx:", 3);
+        dueFault("nnx/", 3);
+        dueFault("nnx1", 4);
+        dueFault("nnx11", 4);
+        dueFault("nnx12", 4);
         dueFault("nnx20", 3);
         dueFault("nnx00", 4);
         dueFault("nnnx10", 5);
@@ -274,6 +288,14 @@ public final class PromisesTest {
         dueFault("nnx010e0", 6);
         dueFault("nnx010 d1000x010", 12);
         dueFault("nnx010 d1000n", 12);
+        dueFault("nnd1000n", 7);
+        dueFault("nnd1000x010", 7);
+        dueFault("nnd1:", 4);
+        dueFault("nnd1/", 4);
+        dueFault("nnd10/", 5);
+        dueFault("nnd100:", 6);
+        dueFault("nnd100/", 6);
+        dueFault("ne/", 2);
         dueFault("nnd5959", NONE);
         dueFault("nnd", 3);
         dueFault("nnd0", 3);
@@ -696,6 +718,8 @@ public final class PromisesTest {
         dueAsked(one, "one WORD alone", one.tell(), 0, 2);
         YearWord mute = speaking("nne1nx010x021x032");
         dueAsked(mute, "MUTE is no MEANING", mute.tell(), 0, 1);
+        YearWord six = speaking("nnne0e1e2e3e4e5x010x120x131x142x153x260x271x282");
+        dueAsked(six, "six MEANINGS", six.tell(), 0, 6);
         YearWord four = speaking("ne0e1e2e3x010x021x032x043");
         dueAsked(four, "the first of four", four.tell(), 0, 3);
         YearWord split = speaking("nnne0e1e2e3x010x131x142x053x064");
@@ -796,6 +820,9 @@ public final class PromisesTest {
         lay(x, 2, 3);
         dueAsked(x, "what is BEGUN, too", x.brings(2), 1, -2);
         due("STATE ahead of NOTHING", new YearWord().brings(0), STATE);
+        YearWord eight = speaking(EIGHT);
+        lay(eight, 0, 0, 1, 2, 3, 4, 5, 6, 7);
+        dueAsked(eight, "eight WORDS: 9 - 1 and 1 - 1", eight.brings(0), 1, 8);
         YearWord greedy = speaking("nne0e1x010x120x131d1209d1000");
         lay(greedy, 0, 0, 2);
         // worst() is 0 by the free DEED 1; DEED 0 would be worth 7 if END 0 were known.
@@ -831,6 +858,11 @@ public final class PromisesTest {
         lay(x, 0, 0, 2);
         dueAsked(x, "with what is BEGUN", x.knows(0), 1, 0);
         dueAsked(x, "worst() behind knows()", x.worst(), 0, NONE);
+        YearWord eight = speaking(EIGHT);
+        lay(eight, 5, 0, 1, 2, 3, 4, 5, 6, 7);
+        dueAsked(eight, "eight WORDS", eight.knows(5), 1, 8);
+        eight.prize(1, 9);
+        dueAsked(eight, "eight WORDS, both DEEDS", eight.knows(5), 1, 16);
         YearWord hills = speaking(HILLS);
         lay(hills, 0, 0, 2, 7, 9);
         // Of the three YEARS that are worked in all go to DEED 2.
@@ -877,6 +909,14 @@ public final class PromisesTest {
         dueAsked(mute, "what ends MUTE doesn't count", mute.heard(0), 1, 2);
         x.row(3, 8);
         dueAsked(x, "eight are few enough", x.heard(3), 0, 0);
+        YearWord eight = speaking(EIGHT);
+        lay(eight, 0, 0, 0, NONE, 1, NONE, 0, 9, 2);
+        dueAsked(eight, "eight SOUNDS", eight.heard(0), 1, 8);
+        due("eight SOUNDS", eight.first(0, 0), 8);
+        dueRow(eight, 0, 0, 1, 2, 3, 4, 5, 6, 7);
+        lay(eight, 0, 0, 0, NONE, 2, NONE, 0, 9, 2);
+        dueAsked(eight, "eight SOUNDS, a slip", eight.heard(0), 0, 0);
+        due("eight SOUNDS, a slip", eight.slips(0), 1);
     }
 
     private static void p35() {
@@ -966,6 +1006,11 @@ public final class PromisesTest {
         YearWord either = speaking("nnne0e1x010x021x130x241");
         lay(either, 0, 0, 2);
         dueAsked(either, "either place, the least", either.least(0), 1, 1);
+        YearWord eight = speaking(EIGHT);
+        lay(eight, 0, 0, 1, 2, 3, 4, 5, 6, 7);
+        dueAsked(eight, "eight WORDS", eight.least(0), 0, 0);
+        lay(eight, 0, 0, 1, 2, 3, 4, 5, 6, 9);
+        dueFinding(eight, "no eighth WORD", eight.least(0), UNLIKE);
         YearWord mute = speaking("nne0nx010x121x132");
         lay(mute, 0, 0, 2);
         dueFinding(mute, "to a MUTE NODE", mute.least(0), UNLIKE);
