@@ -1,3 +1,5 @@
+import java.util.Arrays;
+
 /** Boundary cases of promises 39 to 45: what is told. */
 public final class AnswerEdgesTest {
     private static final Edges E = new Edges();
@@ -164,10 +166,10 @@ public final class AnswerEdgesTest {
         E.edge("BAD, STATE, NONE are none", "row(6, 0) = BAD", "here() = STATE", "TEXT 0 nn", "fault(0) = NONE",
             "findings(1) = 0", "findings(2) = 0", "findings(3) = 0", "findings(4) = 0", "findings(5) = 0");
         E.edge("findings() itself is none", "findings(0) = BAD", "findings(6) = BAD", "finding() = 0");
-        String[] hundred = new String[101];
-        for (int i = 0; i < 100; i++) hundred[i] = i == 0 ? "at(0, 0) = NOTHING" : "at(0, 0) = -3";
-        hundred[100] = "findings(1) = 100";
-        E.edge("a hundred", hundred);
+        String[] most = new String[512];
+        Arrays.fill(most, "at(0, 0) = -3");
+        most[511] = "findings(1) = 511";
+        E.edge("as many as there can be, by the 512th call", most);
         E.rich("a new SPEECH leaves them", "speech(0) = 9", "findings(4) = 1");
     }
 

@@ -165,6 +165,7 @@ public final class MeaningEdgesTest {
         E.edge("four DEEDS in eight YEARS", "SPEECH " + EIGHT + "d2009d2009d2009d2009", "worst() = 36 asked 0");
         E.edge("two DEEDS of three YEARS in eight", "SPEECH " + EIGHT + "d3007d3008d3009d3006", "worst() = 17 asked 1");
         E.edge("one long DEED or two short ones", "SPEECH nne0x010x120d2007d1003d1003", "worst() = 7 asked 0", "prize(0, 5) = 7", "worst() = 6 asked 1");
+        E.edge("an END ahead of other NODES", "SPEECH ne0ne0e0x010x021x231x242d1009", "worst() = 9 asked 0", "begin(0) = 1", "SAY 0", "worst() = 9 asked NONE");
         E.edge("it changes nothing", "SPEECH ne0x010d1009", "worst() = 9 asked 0", "deed(0, 4) = 1 asked 0", "count(3) = 0");
     }
 
@@ -176,9 +177,12 @@ public final class MeaningEdgesTest {
         E.edge("in a LULL's YEAR it would be lost, as none is", "SPEECH le0x010d1009", "worst() = 0 asked 0");
         E.edge("in a LULL's YEAR it would be lost, and can wait", "SPEECH lne0x010x120d1009", "worst() = 9 asked NONE");
         E.edge("what is BEGUN is lost in a LULL's YEAR", "SPEECH lne0x010x120d1009", "begin(0) = 1", "worst() = 0 asked NONE");
+        E.edge("once one is lost another can be BEGUN", "SPEECH lne0x010x120d1009d1004", "begin(0) = 1", "worst() = 4 asked NONE", "hopes() = 1 asked NONE by 4/1");
+        E.edge("what is not BEGUN is not lost", "SPEECH lne0x010x120d1009d1004", "SAY 0", "worst() = 9 asked 0", "deed(1, 4) = 1 asked 0");
         E.edge("what costs is better lost", "SPEECH lne1x010x120d1909", "begin(0) = 1", "worst() = 0 asked NONE");
         E.edge("two YEARS, and a LULL between", "SPEECH nlne0x010x120x230d2009", "worst() = 0 asked 0");
         E.edge("two YEARS, and a COMMA between", "SPEECH ncne0x010x120x230d2009", "worst() = 9 asked 0");
+        E.edge("from a WHISPER one DEED is BEGUN, not two", "SPEECH wne0x010x120d1009d1004", "worst() = 9 asked 0");
         E.edge("two YEARS, and a WHISPER between", "SPEECH nwne0x010x120x230d2009", "worst() = 9 asked 0");
         E.edge("at an OATH twice", "SPEECH no0x010d1509", "worst() = 13 asked 0");
         E.edge("at an END or at an OATH", "SPEECH ne0o0x010x021d1509", "worst() = 4 asked 0");
@@ -214,6 +218,7 @@ public final class MeaningEdgesTest {
         E.edge("where it is MUTE the COST alone", "SPEECH ne0nx010x021d1109", "hopes() = 1 asked 0 by 7/2");
         E.edge("it waits for what is SAID", "SPEECH nnne0e1x010x021x130x241d1305", "hopes() = 1 asked NONE by 1/1");
         E.edge("what is sure and what is hoped for are two things", "SPEECH ne0e1x010x021d1309", "worst() = 0 asked NONE", "hopes() = 1 asked 0 by 3/2", "worst() = 0 asked NONE");
+        E.edge("an END ahead of other NODES", "SPEECH ne0ne1e2x010x021x231x242d1009", "hopes() = 1 asked 0 by 9/2", "begin(0) = 1", "SAY 0", "hopes() = 1 asked NONE by 9/1");
         E.edge("it changes nothing", "SPEECH ne0x010d1009", "hopes() = 1 asked 0 by 9/1", "deed(0, 4) = 1 asked 0", "count(3) = 0");
     }
 }

@@ -207,13 +207,15 @@ public final class SentenceEdgesTest {
         E.edge("another one of the same MEANING", "SPEECH ne0o0x010x021", "ROW 0 0", "least(0) = 0 asked 0");
         E.edge("another one of more WORDS", "SPEECH nne0e1x020x011x130", "ROW 0 0", "least(0) = 0 asked 0");
         E.edge("another MEANING", "SPEECH ne0e1x010x021", "ROW 0 0", "least(0) = 1 asked 1", "ROW 0 1", "least(0) = 1 asked 1");
-        E.edge("either of two places: the least", "SPEECH nnne0e1x010x021x130x241", "ROW 0 0 2", "least(0) = 1 asked 1");
+        E.edge("either of two places: the least", "SPEECH nnne0e1x010x021x130x241", "ROW 0 0 2", "least(0) = 1 asked 1", "ROW 0 1 3", "least(0) = 1 asked 1");
         E.edge("the second of two places", "SPEECH nnne0e1x010x021x130x141x230x241", "ROW 0 0 2", "least(0) = 1 asked 2");
         E.edge("the second of two places, as one WORD alone is the first", "SPEECH nne0e1x010x121x130", "ROW 0 0 1", "least(0) = 1 asked 2");
         E.edge("all of three places", "SPEECH " + PARITY, "ROW 0 0 2 6", "least(0) = 3 asked 7", "ROW 0 1 5 7", "least(0) = 3 asked 7");
         E.edge("the seventh of seven places", "SPEECH nnnnnnne0e1x010x120x230x340x450x560x670x681", "ROW 0 0 1 2 3 4 5 6", "least(0) = 1 asked 64", "ROW 0 0 1 2 3 4 5 7", "least(0) = 1 asked 64");
         E.edge("eight WORDS", "SPEECH " + EIGHT, EIGHT_WORDS, "least(0) = 0 asked 0");
         E.edge("as many as there can be, of one MEANING", "SPEECH " + MANY, "ROW 0 0 3 6 9 12", "least(0) = 0 asked 0");
+        E.edge("one behind the other", "SPEECH " + PARITY + "x062", "ROW 0 0 2 6", "ROW 1 10", "least(0) = 3 asked 7", "least(1) = 0 asked 0", "least(0) = 3 asked 7");
+        E.edge("behind heard()", "SPEECH " + PARITY + "x062", "ROW 0 10", "ROW 1 -9*3", "heard(1) = 8 asked 3", "least(0) = 0 asked 0", "ROW 0 1 5 7", "least(0) = 3 asked 7");
         E.edge("by the last ROW", "SPEECH ne0e1x010x021", "ROW 5 0", "least(5) = 1 asked 1");
         E.rich("it changes nothing", "least(1) = 1", "ROW 1 IS 10 8", "count(3) = 2");
     }

@@ -252,9 +252,26 @@ public final class SpeechEdgesTest {
             "node(0, 1) = 1 asked 0", "count(5) = 0", "worst() = 0 asked NONE", "over() = 1 asked 0");
         E.rich("a refused one leaves the one before", "speech(1) = STATE", "count(0) = 9", "count(3) = 2", "on(1) = 1");
         E.rich("its TEXT may change behind it", "TEXT 0 nn", "count(0) = 9", "say(6) = 6");
+        behindAnother();
         E.edge("NODE 0 an END: it is OVER at once", "SPEECH e4nd1045", "over() = 1 asked 0", "here() = 0 asked 0", "begin(0) = STATE", "lots(8, 1) = 0");
         E.edge("NODE 0 an OATH: it is OVER at once", "SPEECH o4nd1045", "over() = 1 asked 0", "begin(0) = STATE", "years() = 0 asked 0");
         E.edge("NODE 0 MUTE: it is OVER at once", "SPEECH ne0d1045", "over() = 1 asked 0", "begin(0) = STATE", "years() = NONE");
+    }
+
+    /** What was worked out of one SPEECH is not told of the next. */
+    private static void behindAnother() {
+        String longer = "SPEECH nnnnnnne0e2x010x120x230x340x450x560x670x681d1109";
+        String shorter = "SPEECH nne1x010x120d1119";
+        E.edge("how many SENTENCES behind another SPEECH", longer, shorter, "node(0, 2) = 1 asked 1", "node(1, 2) = 1 asked 1", "node(2, 2) = 1 asked 1");
+        E.edge("MEANINGS behind another SPEECH", longer, shorter, "node(0, 3) = 1 asked 2", "node(2, 3) = 1 asked 2", "odds(0) = 1 by 0/1", "odds(1) = 1 by 1/1");
+        E.edge("YEARS behind another SPEECH", longer, shorter, "years() = 2 asked 2", "SAY 0 1", "years() = 0 asked 0");
+        E.edge("just so many YEARS behind another SPEECH", longer, shorter, "just(7) = 0 asked NONE", "just(2) = 1 asked 0", "SAY 0 1", "just(5) = 0 asked NONE", "just(0) = 1 asked NONE");
+        E.edge("how soon it is known behind another SPEECH", longer, "known() = 7", shorter, "known() = 0", "SAY 0 1", "known() = 0");
+        E.edge("what is sure behind another SPEECH", longer, "worst() = 0 asked NONE", shorter, "worst() = 8 asked 0", "SPEECH nne0x010x120d1119", "worst() = 0 asked NONE");
+        E.edge("what is hoped for behind another SPEECH", longer, "hopes() = 1 asked 0 by 7/2", shorter, "hopes() = 1 asked 0 by 8/1", "SPEECH nne0x010x120d1119", "hopes() = 1 asked NONE by 0/1");
+        E.edge("WORDS from a WHISPER behind another SPEECH", "SPEECH we0e0e0x010x021x032", "mark(0, 3) = 3", "SPEECH we0e0e0x010", "mark(0, 3) = 1");
+        E.edge("DEEDS of an OATH's MEANING behind another SPEECH", "SPEECH no0d1000d1000", "mark(1, 4) = 2", "SPEECH no0d1000", "mark(1, 4) = 1", "SPEECH no0", "mark(1, 4) = 0");
+        E.edge("DEEDS' YEARS behind another SPEECH", "SPEECH nld1000d5000", "mark(1, 5) = 5", "SPEECH nld1000", "mark(1, 5) = 1");
     }
 
     private static void node() {

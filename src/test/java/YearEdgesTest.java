@@ -217,6 +217,10 @@ public final class YearEdgesTest {
         E.edge("lost no more", "SPEECH lnx010d1000", "begin(0) = 1", "keep(0) = 0", "SAY 0", "on(0) = 0", "deed(0, 4) = 1 asked 1");
         E.rich("twice", "on(1) = 1", "SAY 3", "on(1) = 1", "here() = 1 asked 1", "count(8) = 2");
         E.rich("undo() goes on from there", "on(1) = 1", "undo(0) = 1", "deed(1, 4) = 1 asked 1", "undo(1) = BAD");
+        E.edge("undo() goes on from there, DEEDS as they were ahead of each WORD then", "SPEECH nnnx010x120d2000", "keep(1) = 0", "begin(0) = 2", "SAY 0", "keep(0) = 1",
+            "on(1) = 0", "SAY 0", "on(0) = 1", "undo(0) = 1", "deed(0, 4) = 1 asked 1");
+        E.edge("and not as they were ahead of WORDS that were kept elsewhere", "SPEECH nnnx010x120d2000", "SAY 0", "keep(0) = 1", "undo(0) = 1", "begin(0) = 2", "SAY 0", "keep(1) = 1",
+            "on(0) = 1", "undo(0) = 1", "deed(0, 4) = 1 asked 0", "on(1) = 1", "undo(0) = 1", "deed(0, 4) = 1 asked 1");
         E.rich("what is SAID then doesn't change what is kept", "on(0) = 0", "SAY 1 4", "on(0) = 0", "told(5) = 0", "on(1) = 1", "told(5) = 1", "ROW 5 IS 0");
         E.rich("what is undone then doesn't either", "on(1) = 1", "undo(0) = 1", "SAY 1", "on(1) = 1", "told(5) = 1", "ROW 5 IS 0");
         E.rich("WORTHS stay as they are now", "prize(1, 3) = 9", "on(1) = 1", "deed(1, 3) = 1 asked 3", "deed(2, 3) = 1 asked 6");
