@@ -17,6 +17,7 @@ public final class MeaningEdgesTest {
         tell();
         worst();
         worstByKinds();
+        worstOneWayAndAnother();
         hopes();
         E.end(25, 31);
     }
@@ -189,6 +190,20 @@ public final class MeaningEdgesTest {
         E.edge("where it is MUTE the COST alone", "SPEECH nnx010d1109", "worst() = 0 asked NONE", "begin(0) = 1", "worst() = -1 asked NONE");
         E.edge("at an END or MUTE", "SPEECH ne0nx010x021d1109", "worst() = 0 asked NONE");
         E.edge("it waits for what is SAID", "SPEECH nnne0e1x010x021x130x241d1109d1119", "worst() = 8 asked NONE", "SAY 1", "worst() = 8 asked 1");
+    }
+
+    /** At the same NODE, DEEDS in one way and in another: each has its own GAIN, whichever was asked ahead. */
+    private static void worstOneWayAndAnother() {
+        E.edge("nothing BEGUN, or the last DEED with all its YEARS left", "SPEECH wnnnnne0x010x120x230x340x450x560d1001d1001d1001d5009", "worst() = 9 asked 3");
+        E.edge("all four lost, or the first with its last YEAR left", "SPEECH llllcne0x010x120x230x340x450x560d1009d1000d1000d1000", "keep(0) = 0",
+            "begin(0) = 1", "SAY 0", "begin(1) = 1", "SAY 1", "begin(2) = 1", "SAY 2", "begin(3) = 1", "SAY 3 4", "worst() = 0 asked NONE",
+            "on(0) = 0", "SAY 0 1 2 3", "begin(0) = 1", "SAY 4", "worst() = 9 asked NONE");
+        E.edge("three lost and two YEARS left, or none lost and three YEARS left", "SPEECH lllncnne0x010x120x230x340x450x560x670d3009d1000d1000d1000", "keep(0) = 0",
+            "begin(1) = 1", "SAY 0", "begin(2) = 1", "SAY 1", "begin(3) = 1", "SAY 2", "begin(0) = 3", "SAY 3 4", "worst() = 9 asked NONE",
+            "on(0) = 0", "SAY 0 1 2 3", "begin(0) = 3", "SAY 4", "worst() = 0 asked NONE");
+        E.edge("one lost, or two DONE and that one BEGUN", "SPEECH lnncnne0x010x120x230x340x450x560d2009d1001d1001d1001", "keep(0) = 0",
+            "begin(0) = 2", "SAY 0 1 2 3", "worst() = 2 asked 1",
+            "on(0) = 0", "SAY 0", "begin(1) = 1", "SAY 1", "begin(2) = 1", "SAY 2", "begin(0) = 2", "SAY 3", "worst() = 11 asked NONE");
     }
 
     private static void hopes() {
