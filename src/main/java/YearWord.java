@@ -1336,7 +1336,8 @@ public final class YearWord {
     private static final class Planner {
         static final int SURE = 0, MEAN = 1, KNOWN = 2;
         private static final int UNREADY = -1;
-        private static final int UNKNOWN = Integer.MIN_VALUE;
+        /** Four DEEDS bring 72 at most and lots are 162 at most, so no value comes near these. */
+        private static final int UNKNOWN = -1000000, UNBOUNDED = 1000000;
 
         private final int[] values = new int[NODES * Deeds.INDEXES];
         private final int[] foreseen = new int[NODES];
@@ -1419,7 +1420,7 @@ public final class YearWord {
         }
 
         private int leastBehind(int x, int deeds, int depth) {
-            int least = Integer.MAX_VALUE;
+            int least = UNBOUNDED;
             for (int j = 0; j < speech.degree[x]; j++) {
                 least = Math.min(least, value(speech.to[speech.wordAt(x, j)], deeds, depth + 1));
             }

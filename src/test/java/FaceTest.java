@@ -6,7 +6,6 @@ import java.lang.reflect.Modifier;
 import java.nio.file.Files;
 import java.nio.file.Path;
 import java.util.ArrayList;
-import java.util.Arrays;
 import java.util.List;
 import java.util.Set;
 import java.util.TreeSet;
@@ -15,56 +14,14 @@ import java.util.regex.Pattern;
 
 /** The public face is that of the document, and the file keeps to what LANGUAGE.md lets be seen from outside. */
 public final class FaceTest {
-    private static final String FACE = """
-        int row(int,int)
-        int lay(int,int,int)
-        int at(int,int)
-        int tear(int)
-        int copy(int,int,int,int,int)
-        int mean(int)
-        int text(int,int)
-        int put(int,int,int)
-        int fault(int)
-        int speech(int)
-        int node(int,int)
-        int word(int,int)
-        int deed(int,int)
-        int mark(int,int)
-        int prize(int,int)
-        int say(int)
-        int begin(int)
-        int undo(int)
-        int here()
-        int over()
-        int told(int)
-        int keep(int)
-        int on(int)
-        int odds(int)
-        int years()
-        int just(int)
-        int known()
-        int tell()
-        int worst()
-        int hopes()
-        int brings(int)
-        int knows(int)
-        int heard(int)
-        int slips(int)
-        int first(int,int)
-        int least(int)
-        int lots(int,int)
-        int asked()
-        long upper()
-        long lower()
-        int count(int)
-        int finding()
-        int findings(int)
-        long digest()
-        """;
+    private static final String DOCUMENT = "../shared/DOC.md";
     private static final String SOURCE = "src/main/java/YearWord.java";
     private static final String FORBIDDEN =
         "\\b(throw|throws|try|catch|synchronized|assert|volatile|native|transient|protected|var|yield)\\b|->|::|\\bequals\\b|\\bhashCode\\b"
-        + "|\\bSystem\\.(?!arraycopy)|\\bThread\\b|\\bRandom\\b|Exact\\b|@\\w+";
+        + "|\\bThread\\b|\\bRandom\\b|Exact\\b|@\\w+";
+    /** What of the library LANGUAGE.md lists and the class needs. */
+    private static final Set<String> LIBRARY =
+        Set.of("Arrays.fill", "System.arraycopy", "Math.abs", "Math.max", "Math.min", "Integer.bitCount");
 
     private static int wrong = 0;
 
@@ -76,12 +33,28 @@ public final class FaceTest {
     }
 
     public static void main(String[] args) throws IOException, IllegalAccessException {
-        methods();
-        constants();
+        String face = face(Files.readString(Path.of(DOCUMENT)));
+        methods(face);
+        constants(face);
         nested();
         source(Files.readString(Path.of(SOURCE)));
         System.out.println(wrong == 0 ? "the face is as due" : wrong + " things are not as due");
         if (wrong != 0) System.exit(1);
+    }
+
+    /** The document's own words for it: what stands between the first line of code and the last. */
+    private static String face(String document) {
+        int start = document.indexOf("```java");
+        int end = document.indexOf("```", start + 1);
+        due("the document has a face", start >= 0 && end > start, true);
+        return document.substring(Math.max(start, 0), Math.max(end, 0));
+    }
+
+    private static Set<String> promised(String face) {
+        Set<String> all = new TreeSet<>();
+        Matcher m = Pattern.compile("public (int|long) (\\w+)\\(([^)]*)\\);").matcher(face);
+        while (m.find()) all.add(m.group(1) + " " + m.group(2) + "(" + m.group(3).replaceAll("(\\w+) \\w+", "$1").replace(" ", "") + ")");
+        return all;
     }
 
     private static String told(Method m) {
@@ -90,7 +63,7 @@ public final class FaceTest {
         return m.getReturnType().getName() + " " + m.getName() + "(" + types + ")";
     }
 
-    private static void methods() {
+    private static void methods(String face) {
         Set<String> open = new TreeSet<>();
         Set<String> openNames = new TreeSet<>();
         List<Method> hidden = new ArrayList<>();
@@ -104,7 +77,8 @@ public final class FaceTest {
             open.add(told(m));
             openNames.add(m.getName());
         }
-        due("the public methods", open, new TreeSet<>(Arrays.asList(FACE.strip().split("\n"))));
+        due("the public methods", open, promised(face));
+        due("so many of them", open.size(), 44);
         for (Method m : hidden) due("a private method with a public one's name: " + m.getName(), openNames.contains(m.getName()), false);
         Constructor<?>[] made = YearWord.class.getDeclaredConstructors();
         due("constructors", made.length, 1);
@@ -113,32 +87,47 @@ public final class FaceTest {
         due("the class is public and final", YearWord.class.getModifiers(), Modifier.PUBLIC | Modifier.FINAL);
     }
 
-    private static void constants() throws IllegalAccessException {
+    private static void constants(String face) throws IllegalAccessException {
         Set<String> open = new TreeSet<>();
         for (Field f : YearWord.class.getDeclaredFields()) {
             if (!Modifier.isPrivate(f.getModifiers())) {
                 due(f.getName() + " is a constant", f.getModifiers(), Modifier.PUBLIC | Modifier.STATIC | Modifier.FINAL);
                 open.add(f.getName() + " " + f.get(null));
             }
-            if (Modifier.isStatic(f.getModifiers())) due(f.getName() + " is final", Modifier.isFinal(f.getModifiers()), true);
         }
-        due("the constants", open, new TreeSet<>(List.of("BAD -1", "FULL -2", "FINDING -3", "STATE -4", "SPENT -6", "NONE -9")));
+        Set<String> promised = new TreeSet<>();
+        Matcher m = Pattern.compile("([A-Z]+) = (-?\\d+)").matcher(face);
+        while (m.find()) promised.add(m.group(1) + " " + m.group(2));
+        due("the constants", open, promised);
+        due("so many of them", open.size(), 6);
     }
 
     private static void nested() {
         Class<?>[] inside = YearWord.class.getDeclaredClasses();
         due("few classes", inside.length < 12, true);
+        fewFields(YearWord.class);
         for (Class<?> c : inside) {
             due(c.getName() + " is static", Modifier.isStatic(c.getModifiers()), true);
             due(c.getName() + " is not public", Modifier.isPublic(c.getModifiers()), false);
-            int fields = 0;
-            for (Field f : c.getDeclaredFields()) {
-                if (!Modifier.isStatic(f.getModifiers())) fields++;
-                else due(f.getName() + " is final", Modifier.isFinal(f.getModifiers()), true);
-            }
-            due(c.getName() + " has some twenty fields at most", fields <= 20, true);
+            fewFields(c);
             for (Method m : c.getDeclaredMethods()) due(m.getName() + " has seven parameters at most", m.getParameterCount() <= 7, true);
         }
+    }
+
+    private static boolean isKnown(String type, String use) {
+        for (Class<?> c : YearWord.class.getDeclaredClasses()) {
+            if (c.getSimpleName().equals(type)) return true;
+        }
+        return LIBRARY.contains(use);
+    }
+
+    private static void fewFields(Class<?> c) {
+        int fields = 0;
+        for (Field f : c.getDeclaredFields()) {
+            if (!Modifier.isStatic(f.getModifiers())) fields++;
+            else due(f.getName() + " is a constant number", Modifier.isFinal(f.getModifiers()) && f.getType().isPrimitive(), true);
+        }
+        due(c.getName() + " has some twenty fields at most", fields <= 20, true);
     }
 
     private static void source(String text) {
@@ -147,6 +136,8 @@ public final class FaceTest {
         while (bad.find()) due("a word that the language leaves out", bad.group(), "");
         Matcher imports = Pattern.compile("import ([^;]+);").matcher(code);
         while (imports.find()) due("an import", imports.group(1), "java.util.Arrays");
+        Matcher used = Pattern.compile("\\b([A-Z][a-z]\\w*)\\.(\\w+)").matcher(code.replaceAll("import [^;]+;", ""));
+        while (used.find()) due(used.group() + " is of the library's part or of a class inside", isKnown(used.group(1), used.group()), true);
         int start = 0;
         String[] lines = text.split("\n");
         for (int i = 0; i < lines.length; i++) {

@@ -86,6 +86,7 @@ public final class MeaningEdgesTest {
         E.edge("as many as there can be", "SPEECH " + MANY, "just(5) = 162 asked 0", "just(4) = 0 asked NONE", "just(6) = 0 asked NONE");
         E.edge("the last ones of as many", "SPEECH " + MANY, "SAY 2 5 8 11", "just(1) = 2 asked 12");
         E.edge("a COMMA's and a LULL's YEARS count", "SPEECH cle0x010x120", "just(2) = 1 asked 0", "just(1) = 0 asked NONE");
+        E.edge("by the WORD from here, whatever is SAID behind it", "SPEECH nnne0x230x131x020x011", "just(2) = 2 asked 2", "SAY 3", "just(1) = 1 asked 1");
         E.edge("two of several", "SPEECH nne0x010x021x120x121", "just(1) = 1 asked 1", "just(2) = 2 asked 0");
         E.rich("from where THE SPEECH is", "just(1) = 1 asked 6", "just(2) = 2 asked 7", "just(3) = 0 asked NONE");
     }

@@ -1,6 +1,18 @@
+import java.util.Arrays;
+
 /** Boundary cases of promises 1 to 9: a new object, ROWS, and TEXTS. */
 public final class RowEdgesTest {
     private static final Edges E = new Edges();
+
+    /** Of each sort of call one, with what is due of it where a SPEECH is at NODE 0 and ROW 0 has a 0. */
+    private static final String[] LAST = {
+        "row(5, 40) = 40", "lay(0, 0, 1) = 1", "at(0, 0) = 1", "tear(0) = 1", "copy(0, 0, 0, 0, 1) = 1", "mean(0) = 1", "text(1, 80) = 80", "put(0, 0, 0) = 1110",
+        "fault(0) = NONE", "speech(0) = 2", "node(1, 3) = 1", "word(0, 2) = 1", "deed(0, 3) = 1", "mark(1, 1) = 0", "prize(0, 5) = 9",
+        "say(0) = 1", "begin(0) = 1", "undo(0) = 0", "here() = 0", "over() = 0", "told(1) = 0", "keep(2) = 0",
+        "odds(0) = 1", "years() = 1", "just(1) = 1", "known() = 0", "tell() = 0", "worst() = 7", "hopes() = 1", "brings(0) = 1", "knows(0) = 1",
+        "heard(0) = 1", "slips(0) = 1", "first(0, 1) = 1", "least(0) = 0", "lots(8, 1) = 1", "asked() = 0", "upper() = 0", "lower() = 1", "count(8) = 0", "finding() = 0",
+        "findings(5) = 0", "DIGEST 2 1 1 0 0 1 1 1 0  0 1 1 1  1 0 1 1  0 1 0  1 2 0 9 0  -1*3  1 0 -1*5  12 110 101 48 120 48 49 48 100 49 50 48 57 -1*3",
+    };
 
     public static void main(String[] args) {
         newObject();
@@ -32,6 +44,17 @@ public final class RowEdgesTest {
         E.edge("nothing was told", "asked() = 0", "upper() = 0", "lower() = 1");
         E.edge("nothing was found", "finding() = 0", "findings(1) = 0", "findings(2) = 0", "findings(3) = 0", "findings(4) = 0", "findings(5) = 0");
         E.edge("its digest", "DIGEST 0*9 -1*3 -1*6 -1*4");
+        for (String call : LAST) E.edge("it is still used for its 512th call: " + call, aheadOf(call));
+    }
+
+    /** A SPEECH in fourteen calls, a ROW of one place, a call over and over, and this one as the 512th. */
+    private static String[] aheadOf(String call) {
+        String[] steps = new String[499];
+        Arrays.fill(steps, "here() = 0");
+        steps[0] = "SPEECH ne0x010d1209";
+        steps[1] = "row(0, 1) = 1";
+        steps[498] = call;
+        return steps;
     }
 
     private static void row() {

@@ -189,6 +189,8 @@ public final class SentenceEdgesTest {
         E.edge("the first WORD leads to where it is MUTE", "SPEECH nne0x010x021", "ROW 0 -9", "first(0, 1) = 1", "ROW 1 IS 1");
         E.edge("by the number of WORDS, not by SOUNDS", "SPEECH ne0x019x010", "ROW 0 -9", "first(0, 1) = 1", "ROW 1 IS 0");
         E.edge("the first WORD ahead of the second", "SPEECH nnne0x021x010x130x232", "ROW 0 -9 -9", "first(0, 1) = 2", "ROW 1 IS 0 3");
+        E.edge("WORDS that stand in another order than they are SAID", "SPEECH nnne0x231x230x011x020x130", "ROW 0 -9 -9", "first(0, 1) = 2", "ROW 1 IS 2 4",
+            "ROW 0 0 -9", "first(0, 1) = 2", "ROW 1 IS 3 0", "ROW 0 0 0", "first(0, 1) = 2", "ROW 1 IS 3 1");
         E.edge("eight WORDS", "SPEECH " + EIGHT, "ROW 0 -9*8", "first(0, 0) = 8", "ROW 0 IS 0 1 2 3 4 5 6 7");
         E.edge("the first of as many as there can be", "SPEECH " + MANY, "ROW 0 -9*5", "first(0, 0) = 5", "ROW 0 IS 0 3 6 9 12");
         E.edge("the last of as many as there can be", "SPEECH " + MANY, "ROW 0 2 2 2 2 1", "first(0, 0) = 5", "ROW 0 IS 2 5 8 11 13");

@@ -281,6 +281,8 @@ public final class SpeechEdgesTest {
         E.edge("no NODES at first", "node(0, 0) = BAD", "node(0, 3) = BAD");
         E.edge("two NODES: the last is 1", "SPEECH nc", "node(1, 0) = 1 asked 2", "node(2, 0) = BAD");
         E.edge("nine NODES: the last is 8", "SPEECH nnnnnnnnl", "node(8, 0) = 1 asked 5", "node(9, 0) = BAD");
+        E.edge("as they come, whatever their KINDS", "SPEECH lo2we1cn", "node(0, 0) = 1 asked 5", "node(1, 0) = 1 asked 4", "node(2, 0) = 1 asked 3", "node(3, 0) = 1 asked 1",
+            "node(4, 0) = 1 asked 2", "node(5, 0) = 1 asked 0");
         String kinds = "SPEECH ne5cwo5l";
         for (int x = 0; x < 6; x++) E.edge("KIND " + x, kinds, "node(" + x + ", 0) = 1 asked " + x);
         E.edge("no WORD leads from an END", "SPEECH ne0x010", "node(1, 1) = 1 asked 0");
@@ -313,6 +315,8 @@ public final class SpeechEdgesTest {
         E.edge("fourteen: the last is 13", "SPEECH " + FOURTEEN, "word(13, 0) = 1 asked 3", "word(13, 1) = 1 asked 4", "word(13, 2) = 1 asked 1", "word(14, 0) = BAD");
         E.edge("from the least NODE to the greatest", "SPEECH nnnnnnnnnx080", "word(0, 0) = 1 asked 0", "word(0, 1) = 1 asked 8");
         E.edge("from the last but one", "SPEECH nnnnnnnnnx780", "word(0, 0) = 1 asked 7", "word(0, 1) = 1 asked 8");
+        E.edge("as they come, whichever NODES they lead from", "SPEECH nne0x120x010", "word(0, 0) = 1 asked 1", "word(0, 1) = 1 asked 2", "word(1, 0) = 1 asked 0", "word(1, 1) = 1 asked 1",
+            "node(0, 1) = 1 asked 2", "node(1, 1) = 1 asked 1", "say(0) = STATE", "say(1) = 1", "say(0) = 2");
         E.edge("the least SOUND and the greatest", "SPEECH nnx010x019", "word(0, 2) = 1 asked 0", "word(1, 2) = 1 asked 9");
     }
 
@@ -325,6 +329,7 @@ public final class SpeechEdgesTest {
         E.edge("four: the last is 3", "SPEECH nn" + FOUR_DEEDS, "deed(3, 0) = 1 asked 5", "deed(4, 0) = BAD");
         E.edge("the least of all", "SPEECH nnd1000", "deed(0, 0) = 1 asked 1", "deed(0, 1) = 1 asked 0", "deed(0, 2) = 1 asked 0", "deed(0, 3) = 1 asked 0");
         E.edge("the greatest of all", "SPEECH nnd5959", "deed(0, 0) = 1 asked 5", "deed(0, 1) = 1 asked 9", "deed(0, 2) = 1 asked 5", "deed(0, 3) = 1 asked 9");
+        E.edge("as they come", "SPEECH nnd5000d1911d2122", "deed(0, 0) = 1 asked 5", "deed(1, 0) = 1 asked 1", "deed(1, 1) = 1 asked 9", "deed(2, 2) = 1 asked 2", "deed(2, 3) = 1 asked 2");
         E.edge("not BEGUN", "SPEECH nnx010d1000", "deed(0, 4) = 1 asked 0");
         E.edge("not BEGUN by a YEAR that goes by", "SPEECH nnx010d1000", "SAY 0", "deed(0, 4) = 1 asked 0");
         E.edge("BEGUN, no YEAR went by", "SPEECH nnx010d1000", "begin(0) = 1", "deed(0, 4) = 1 asked 1");
